@@ -581,7 +581,7 @@ public final class KeyDesk {
         }
 
         int at(int i) {
-            return has(i) ? items[i] : ABSENT;
+            return i >= 0 && i < size ? items[i] : ABSENT;
         }
 
         void add(int v) {
@@ -1797,7 +1797,7 @@ public final class KeyDesk {
             steps[end] = 0;
             queue.clear();
             queue.add(end);
-            for (int done = 0; done < queue.size(); done++) {
+            for (int done = 0; done < WAY_LAYOUTS && done < queue.size(); done++) {
                 int r = queue.at(done);
                 for (int e = 0; e < exchanges; e++) {
                     int next = neighbour(r, e);
