@@ -190,6 +190,16 @@ public final class HandsTest {
     Due.is(x.mine(0, 12, 7, 0, 0), 1);
     Due.is(x.mine(0, 12, 7, 0, 1), 5);
     Due.is(x.mine(0, 12, 7, 0, 2), 4);
+    // GUESSES heed no HAND, nor its first DAY.
+    KeyDesk y = desk(2);
+    y.learn(0, 1, 0);
+    y.learn(3, 1, 0);
+    y.key(2);
+    Due.is(y.guess(7, 0, 0), 0);
+    Due.is(y.guess(7, 0, 1), 1);
+    Due.is(y.mine(0, 0, 7, 0, 0), 1);
+    Due.is(y.mine(3, 0, 7, 0, 0), 1);
+    Due.is(y.mine(1, 0, 7, 0, 0), 0);
   }
 
   private static void budgets() {
