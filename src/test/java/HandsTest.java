@@ -170,6 +170,8 @@ public final class HandsTest {
     Due.is(x.mine(0, 9, 7, 3, 0), 0);
     Due.is(x.mine(0, 10, 7, 3, 0), 4);
     Due.is(x.mine(0, 10, 7, 3, 1), 0);
+    Due.is(x.mine(0, 10, 1, 3, -1), 3);
+    Due.is(x.mine(0, 10, 1, 60, -1), 3);
     Due.is(x.mine(0, 11, 7, 3, 0), 5);
     Due.is(x.mine(0, 11, 7, 3, 1), 4);
     Due.is(x.mine(0, 11, 7, 3, 2), 0);
@@ -224,7 +226,7 @@ public final class HandsTest {
     Due.is(x.seed(1000000), 1);
     Due.is(x.seed(1), 1000000);
     // 1 becomes 16807, 282475249, 1622650073, 984943658, 1144108930.
-    x.share(0, 1, 0);
+    Due.is(x.share(0, 1, 0), -20100);
     Due.is(x.seed(1), 16807);
     for (int n = 0; n < 5; n++) {
       x.share(0, 1, 0);

@@ -219,6 +219,15 @@ public final class LayoutsTest {
     Due.is(x.bound(), 5);
     x.same(20);
     Due.is(x.bound(), 5);
+    x.symbols(7);
+    for (int i = 0; i < 7; i++) {
+      x.set(2, i, 99);
+      x.set(0, i, 20);
+      for (int j = 0; j < 7; j++) {
+        x.pair(i, j, 50);
+      }
+    }
+    Due.is(x.bound(), 7 * 99 * 20 + 42 * 50);
   }
 
   private static void betters() {
@@ -254,6 +263,14 @@ public final class LayoutsTest {
     x.set(0, 2, 0);
     Due.is(x.better(12, 0), 210);
     Due.is(x.better(102, 0), 201);
+    x.symbols(7);
+    for (int i = 0; i < 7; i++) {
+      x.set(2, i, i);
+      x.set(0, i, i);
+    }
+    Due.is(x.better(123456, 0), 6543210);
+    Due.is(x.better(123456, 1), 3);
+    Due.is(x.better(6543210, 1), 0);
   }
 
   private static void wayIs(KeyDesk x, int from, int to, int peak, int... layouts) {

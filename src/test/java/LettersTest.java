@@ -17,6 +17,7 @@ public final class LettersTest {
     joinedSigns();
     pieces();
     couldCome();
+    fullTongue();
     Due.end();
   }
 
@@ -268,6 +269,8 @@ public final class LettersTest {
     Due.is(x.idle(0, 2), -2);
     Due.is(x.idle(0, -1), -2);
     rule(x, 0, row(0), 1);
+    Due.is(x.idle(0, 0), 0);
+    Due.is(x.idle(0, 1), 4094);
     rule(x, 0, row(0, 11), 1);
     rule(x, 0, row(0), 1);
     rule(x, 0, row(11, 0), 1);
@@ -506,5 +509,49 @@ public final class LettersTest {
     Due.is(x.could(), 1);
     line(x, 0, 1);
     Due.is(x.could(), 4);
+  }
+
+  /** Each TONGUE with 24 RULES of 4 KEYS and 12 JOINS, THE LINE with 40 strokes. */
+  private static void fullTongue() {
+    KeyDesk x = new KeyDesk();
+    for (int t = 0; t < 3; t++) {
+      for (int n = 0; n < 24; n++) {
+        Due.is(rule(x, t, row(n / 12, 1, 2, n % 12), 1 + n, 25 + n, 49), n);
+      }
+      for (int n = 1; n <= 12; n++) {
+        Due.is(x.join(t, 47 + n, 1, 48 + n), n);
+      }
+      for (int l = 1; l <= 60; l++) {
+        x.own(t, l, true);
+      }
+      Due.is(x.quarrel(t, -1), 0);
+      Due.is(x.idle(t, 0), 0);
+      Due.is(x.idle(t, 1), 0);
+      Due.is(x.missing(t, -1), 0);
+      x.speak(t);
+      line(x);
+      Due.is(x.could(), 3);
+      for (int i = 0; i < 40; i++) {
+        x.strike(i, i % 4 == 3 ? 11 : i % 4);
+      }
+      // 12, 36 and 49 each time, and 49 joins nothing but a 1 behind it.
+      Due.is(x.stands(-1), 30);
+      Due.is(x.stands(29), 49);
+      Due.is(x.stands(27), 12);
+      Due.is(x.piece(-1), 10);
+      Due.is(x.piece(9), 1136);
+      Due.is(x.could(), 0);
+      x.change(39, 0);
+      // 1, behind 49, makes 50 of both.
+      Due.is(x.stands(-1), 29);
+      Due.is(x.stands(26), 50);
+      Due.is(x.piece(9), 36);
+      x.back(39);
+      Due.is(x.piece(-1), 12);
+      Due.is(x.could(), 0);
+      x.back(38);
+      x.back(37);
+      Due.is(x.could(), 2);
+    }
   }
 }

@@ -15,6 +15,7 @@ public final class WordsTest {
     said();
     chosen();
     greatestProduct();
+    fullOfWords();
     Due.end();
   }
 
@@ -358,6 +359,12 @@ public final class WordsTest {
     word(z, 0, 1, 11);
     pad(z, 5, 11, 11);
     row(z, 1, 0, 0, 2, 1, 1);
+    // So the second 6 is TWICE in the first piece alone, though the second piece would make the first one shorter.
+    KeyDesk v = new KeyDesk();
+    word(v, 0, 1, 5, 6);
+    word(v, 0, 1, 11);
+    pad(v, 5, 6, 6, 11);
+    row(v, 1, 3, 0, 3, 1, 1);
   }
 
   private static void pairs() {
@@ -384,14 +391,17 @@ public final class WordsTest {
     }
     Due.is(x.told(6), 40);
     Due.is(x.both(41, 0, 5), -4);
+    Due.is(x.both(41, 0, 1), -4);
     Due.is(x.both(41, 0, 101), -2);
     Due.is(x.both(41, 0, 0), 0);
     Due.is(x.both(40, 0, 6), 5);
     Due.is(x.both(40, 0, 0), 6);
     Due.is(x.both(40, 0, 0), 0);
     Due.is(x.told(6), 39);
-    Due.is(x.both(41, 0, 5), 0);
+    Due.is(x.both(41, 0, 1), 0);
     Due.is(x.told(6), 40);
+    Due.is(x.both(41, 0, 0), 1);
+    Due.is(x.told(6), 39);
   }
 
   private static void said() {
@@ -409,10 +419,10 @@ public final class WordsTest {
   }
 
   private static void choice(KeyDesk x, long product, int... words) {
-    Due.is(x.product(), product);
     for (int i = 0; i < words.length; i++) {
       Due.is(x.chosen(i), words[i]);
     }
+    Due.is(x.product(), product);
     Due.is(x.chosen(words.length), -6);
     Due.is(x.chosen(-1), -6);
   }
@@ -484,5 +494,57 @@ public final class WordsTest {
     choice(y, 16, 0, 2);
     y.both(0, 2, 2);
     choice(y, 16, 1, 1);
+    // At a product of 1 no other SOUND slips in.
+    KeyDesk z = new KeyDesk();
+    word(z, 0, 1, 1);
+    word(z, 0, 1, 2);
+    z.say(1, false);
+    choice(z, 1, 1);
+    z.say(1, false);
+    z.say(1, true);
+    choice(z, 1, 1, 1, 1);
+  }
+
+  /** 60 WORDS of 8 KEYS, 40 pairs, full PADS, and the greatest PRICES. */
+  private static void fullOfWords() {
+    KeyDesk x = new KeyDesk();
+    for (int n = 0; n < 60; n++) {
+      Due.is(word(x, n % 3, n % 3 == 0 ? 100 : 1 + n, 11, 3, 11, 3, 11, 3, 11, 3), n);
+    }
+    for (int which = 0; which < 6; which++) {
+      x.price(which, 20);
+    }
+    for (int n = 0; n < 40; n++) {
+      Due.is(x.both(57, n, 100), 0);
+    }
+    for (int n = 0; n < 16; n++) {
+      x.key(0);
+    }
+    // 8 KEYS are WRONG, 8 more are struck TWICE.
+    for (int w = 0; w < 60; w++) {
+      Due.is(x.slip(w), 320);
+    }
+    Due.is(x.guess(7, 60, -1), 0);
+    row(x, 7, 320, 0, 8, 0, 8);
+    pad(x, 11, 3, 11, 3, 11, 3, 11, 3, 11, 3, 11, 3, 11, 3, 11, 3);
+    row(x, 7, 0, 0, 8, 0, 8);
+    row(x, 6, 0, 59, 8, 59, 8);
+    x.wipe(0);
+    x.key(11);
+    x.price(2, 1);
+    Due.is(x.guess(7, 7, -1), 60);
+    Due.is(x.guess(7, 7, 0), 0);
+    Due.is(x.guess(7, 7, 19), 57);
+    Due.is(x.guess(7, 7, 20), 59);
+    Due.is(x.guess(7, 7, 59), 1);
+    Due.is(x.guess(7, 7, 60), -6);
+    for (int n = 0; n < 5; n++) {
+      x.say(57, false);
+    }
+    // 57 has come ahead of 0 to 39, those ahead of none: of 0 57 0 57 0 and 57 0 57 0 0 the first.
+    choice(x, 10_000_000_000L * 101 * 101, 0, 57, 0, 57, 0);
+    x.wipe(2);
+    x.say(59, false);
+    choice(x, 60, 59);
   }
 }
