@@ -1,17 +1,29 @@
+import java.util.HashSet;
+import java.util.Set;
+
 /** Counts answers that are not the ones that are due, and tells where. */
 final class Due {
   private static int asked = 0;
   private static int wrong = 0;
+  private static String about = "";
+  private static final Set<Long> wanted = new HashSet<>();
 
   private Due() {
+  }
+
+  /** What the next answers hold: it is told with those that are wrong. */
+  static void about(String what) {
+    about = what;
+    wanted.clear();
   }
 
   /** The answer got, and the one that is due. */
   static void is(long got, long want) {
     asked++;
+    wanted.add(want);
     if (got != want) {
       wrong++;
-      System.out.println(place() + ": answered " + got + ", due is " + want);
+      System.out.println(place() + ": answered " + got + ", due is " + want + tail());
     }
   }
 
@@ -20,7 +32,7 @@ final class Due {
     asked++;
     if (!is) {
       wrong++;
-      System.out.println(place() + ": not so: " + what);
+      System.out.println(place() + ": not so: " + what + tail());
     }
   }
 
@@ -32,8 +44,21 @@ final class Due {
         .orElse("?"));
   }
 
+  private static String tail() {
+    return about.isEmpty() ? "" : " -- " + about;
+  }
+
+  static int asked() {
+    return asked;
+  }
+
   static int wrong() {
     return wrong;
+  }
+
+  /** The answers that were due since the last call of about. */
+  static Set<Long> wanted() {
+    return Set.copyOf(wanted);
   }
 
   /** Ends a test: with exit code 1, if an answer was wrong or none was asked for. */
