@@ -289,6 +289,18 @@ final class LayoutsEdges {
     }
   }
 
+  @Edge(promise = 42, sentence = "OUTSIDE: digits that are none. .. PLACES of SYMBOLS 0, 1, and so on")
+  static void layoutOf2SymbolsIs1Or10Alone() {
+    KeyDesk x = new KeyDesk();
+    x.symbols(2);
+    for (int layout = -11; layout <= 111; layout++) {
+      boolean none = layout != 1 && layout != 10;
+      Due.is(x.cost(layout), none ? -2 : 0);
+      Due.is(x.better(layout, 1), none ? -2 : 0);
+      Due.is(x.way(layout, 10, -1), none ? -2 : 0);
+    }
+  }
+
   @Edge(promise = 42, sentence = "OUTSIDE: digits that are none. .. on k PLACES")
   static void layoutWithAPlaceBeyondIsNone() {
     for (int k = 2; k <= 7; k++) {

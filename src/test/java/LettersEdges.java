@@ -1586,6 +1586,20 @@ final class LettersEdges {
     Due.is(x.could(), 64);
   }
 
+  @Edge(promise = 17, sentence = "RULES, 24 at most each .. COULD, as bits of KEYS.")
+  static void keysOfRule23CouldCome() {
+    KeyDesk x = new KeyDesk();
+    for (int n = 0; n < 23; n++) {
+      Desk.rule(x, 0, Desk.row(0, 1), 1);
+    }
+    Desk.rule(x, 0, Desk.row(5, 11), 1);
+    Due.is(x.could(), 1 + 32);
+    Desk.line(x, 5);
+    Due.is(x.could(), 2048);
+    Desk.line(x, 5, 11);
+    Due.is(x.could(), 0);
+  }
+
   @Edge(promise = 17, sentence = "THE LINE: up to 40 strokes, and its TONGUE")
   static void rulesOfOtherTonguesCouldNotCome() {
     KeyDesk x = new KeyDesk();

@@ -511,10 +511,10 @@ public final class LettersTest {
     Due.is(x.could(), 4);
   }
 
-  /** Each TONGUE with 24 RULES of 4 KEYS and 12 JOINS, THE LINE with 40 strokes. */
+  /** A TONGUE with 24 RULES of 4 KEYS and 12 JOINS, THE LINE with 40 strokes: some 400 calls for each. */
   private static void fullTongue() {
-    KeyDesk x = new KeyDesk();
     for (int t = 0; t < 3; t++) {
+      KeyDesk x = new KeyDesk();
       for (int n = 0; n < 24; n++) {
         Due.is(rule(x, t, row(n / 12, 1, 2, n % 12), 1 + n, 25 + n, 49), n);
       }

@@ -98,11 +98,13 @@ public final class RunsTest {
     for (int weight : THEMES[theme]) {
       all += weight;
     }
+    int call = 0;
     if (theme == 4) {
       int k = draw(2, 7);
       Due.is(x.symbols(k), y.symbols(k));
+      call++;
     }
-    for (int call = 0; call < CALLS; call++) {
+    for (; call < CALLS; call++) {
       int name = 0;
       int left = draw(0, all - 1);
       while (left >= THEMES[theme][name]) {

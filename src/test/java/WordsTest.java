@@ -505,11 +505,14 @@ public final class WordsTest {
     choice(z, 1, 1, 1, 1);
   }
 
-  /** 60 WORDS of 8 KEYS, 40 pairs, full PADS, and the greatest PRICES. */
+  /** 60 WORDS, 40 pairs, full PADS, and the greatest PRICES, within 512 calls. */
   private static void fullOfWords() {
     KeyDesk x = new KeyDesk();
     for (int n = 0; n < 60; n++) {
-      Due.is(word(x, n % 3, n % 3 == 0 ? 100 : 1 + n, 11, 3, 11, 3, 11, 3, 11, 3), n);
+      for (int k : new int[] {11, 3, 11, 3}) {
+        x.key(k);
+      }
+      Due.is(x.word(n % 3, 1, n % 3 == 0 ? 100 : 1 + n), n);
     }
     for (int which = 0; which < 6; which++) {
       x.price(which, 20);
@@ -520,15 +523,15 @@ public final class WordsTest {
     for (int n = 0; n < 16; n++) {
       x.key(0);
     }
-    // 8 KEYS are WRONG, 8 more are struck TWICE.
-    for (int w = 0; w < 60; w++) {
+    // 4 KEYS are WRONG, 12 more are struck TWICE.
+    for (int w = 0; w < 60; w += 7) {
       Due.is(x.slip(w), 320);
     }
     Due.is(x.guess(7, 60, -1), 0);
-    row(x, 7, 320, 0, 8, 0, 8);
+    row(x, 7, 320, 0, 4, 0, 4, 0, 4, 0, 4);
     pad(x, 11, 3, 11, 3, 11, 3, 11, 3, 11, 3, 11, 3, 11, 3, 11, 3);
-    row(x, 7, 0, 0, 8, 0, 8);
-    row(x, 6, 0, 59, 8, 59, 8);
+    row(x, 7, 0, 0, 4, 0, 4, 0, 4, 0, 4);
+    row(x, 6, 0, 59, 4, 59, 4, 59, 4, 59, 4);
     x.wipe(0);
     x.key(11);
     x.price(2, 1);
