@@ -1373,6 +1373,17 @@ final class LettersEdges {
     Due.is(x.stands(9), -2);
   }
 
+  @Edge(promise = 15, sentence = "from the first one on: the RULE with the most KEYS that are just the next ones")
+  static void longerRuleThatBeginsFurtherOnComesTooLate() {
+    KeyDesk x = new KeyDesk();
+    Desk.rule(x, 0, Desk.row(2, 3, 4), 30);
+    Desk.rule(x, 0, Desk.row(1, 2), 20);
+    Desk.line(x, 1, 2, 3, 4);
+    Desk.stands(x, 20, -4, -5);
+    x.back(0);
+    Desk.stands(x, 30);
+  }
+
   @Edge(promise = 15, sentence = "KEYS that are just the next ones")
   static void ruleWithAnotherLastKeyGivesNothing() {
     KeyDesk x = new KeyDesk();

@@ -428,6 +428,13 @@ final class WordsEdges {
     return x.slip(0);
   }
 
+  @Edge(promise = 22, sentence = "(and they are not one) .. nothing, if it is that; BESIDE, if it lies so")
+  static void keyIsNotBesideItself() {
+    for (int k = 0; k <= 11; k++) {
+      Due.is(slip(Desk.row(k), k), 0);
+    }
+  }
+
   @Edge(promise = 22, sentence = "nothing, if it is that")
   static void keysThatAreTheWordCostNothing() {
     Due.is(slip(Desk.row(0), 0), 0);
