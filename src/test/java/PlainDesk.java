@@ -5,6 +5,7 @@ import java.util.HashMap;
 import java.util.HashSet;
 import java.util.List;
 import java.util.Map;
+import java.util.Optional;
 import java.util.Set;
 import java.util.TreeMap;
 import java.util.TreeSet;
@@ -21,6 +22,8 @@ final class PlainDesk {
   private record Learning(int hand, int word, int day) { }
 
   private record Piece(int word, int length) { }
+
+  private record Priced(int word, int price) { }
 
   private record Parted(int sum, int product, List<Piece> pieces) { }
 
@@ -376,34 +379,48 @@ final class PlainDesk {
 
   private Parted bestParted;
 
+  /** Tries all ways to cut the PAD, and all rows of TONGUES for the pieces. */
   private Parted parted(int tongues) {
     bestParted = null;
-    Map<List<Integer>, Integer> known = new HashMap<>();
-    tryParts(tongues, 0, new ArrayList<>(), 0, 1, known);
+    tryParts(tongues, 0, new ArrayList<>(), 0, 1, new HashMap<>());
     return bestParted;
   }
 
   private void tryParts(int tongues, int from, List<Piece> ahead, int sum, int product,
-      Map<List<Integer>, Integer> known) {
+      Map<List<Integer>, Optional<Priced>> known) {
+    if (bestParted != null && sum > bestParted.sum) return;
     if (from == padKeys.size()) {
       Parted now = new Parted(sum, product, List.copyOf(ahead));
       if (bestParted == null || PARTED_ORDER.compare(now, bestParted) < 0) bestParted = now;
       return;
     }
     if (ahead.size() == 4) return;
-    for (int w = 0; w < words.size(); w++) {
-      if ((tongues >> words.get(w).tongue) % 2 == 0) continue;
+    for (int tongue = 0; tongue < 3; tongue++) {
+      if ((tongues >> tongue) % 2 == 0) continue;
+      boolean switches = !ahead.isEmpty() && words.get(ahead.get(ahead.size() - 1).word).tongue != tongue;
       for (int n = 1; n <= 10 && from + n <= padKeys.size(); n++) {
-        int word = w;
-        int end = from + n;
-        int price = known.computeIfAbsent(List.of(w, from, n), x -> priceFor(padKeys.subList(from, end), word));
-        boolean switches = !ahead.isEmpty()
-            && words.get(ahead.get(ahead.size() - 1).word).tongue != words.get(w).tongue;
-        ahead.add(new Piece(w, n));
-        tryParts(tongues, end, ahead, sum + price + (switches ? prices[5] : 0), product * words.get(w).count, known);
+        Optional<Priced> it = known.get(List.of(tongue, from, n));
+        if (it == null) {
+          it = firstOf(tongue, padKeys.subList(from, from + n));
+          known.put(List.of(tongue, from, n), it);
+        }
+        if (it.isEmpty()) continue;
+        ahead.add(new Piece(it.get().word, n));
+        tryParts(tongues, from + n, ahead, sum + it.get().price + (switches ? prices[5] : 0),
+            product * words.get(it.get().word).count, known);
         ahead.remove(ahead.size() - 1);
       }
     }
+  }
+
+  /** Where cuts and TONGUES are given, each piece has the WORD of the least PRICE, then of the greatest COUNT. */
+  private Optional<Priced> firstOf(int tongue, List<Integer> struck) {
+    List<Priced> found = new ArrayList<>();
+    for (int w = 0; w < words.size(); w++) {
+      if (words.get(w).tongue == tongue) found.add(new Priced(w, priceFor(struck, w)));
+    }
+    Comparator<Priced> byPrice = Comparator.comparing(Priced::price);
+    return found.stream().min(byPrice.thenComparing(it -> -words.get(it.word).count).thenComparing(Priced::word));
   }
 
   int part(int tongues, int i) {
@@ -455,17 +472,35 @@ final class PlainDesk {
       }
       return;
     }
-    Word said = words.get(padWords.get(i));
+    // Of several with one product the first by numbers was tried first.
+    if (product * most(i) <= bestProduct) return;
     for (int w = 0; w < words.size(); w++) {
-      Word it = words.get(w);
-      boolean fits = padFixed.get(i) ? w == padWords.get(i) : it.tongue == said.tongue && it.keys.equals(said.keys);
-      if (fits) {
+      if (fits(i, w)) {
+        Word it = words.get(w);
         int near = i == 0 ? 1 : 1 + together.getOrDefault(List.of(ahead.get(i - 1), w), 0);
         ahead.add(w);
         tryChoices(ahead, product * it.count * near);
         ahead.remove(i);
       }
     }
+  }
+
+  private boolean fits(int i, int w) {
+    Word said = words.get(padWords.get(i));
+    Word it = words.get(w);
+    return padFixed.get(i) ? w == padWords.get(i) : it.tongue == said.tongue && it.keys.equals(said.keys);
+  }
+
+  /** More than the WORDS from a place of the PAD on can bring. */
+  private long most(int from) {
+    long product = 1;
+    int near = 1 + together.values().stream().max(Comparator.naturalOrder()).orElse(0);
+    for (int i = from; i < padWords.size(); i++) {
+      int count = 0;
+      for (int w = 0; w < words.size(); w++) if (fits(i, w)) count = Math.max(count, words.get(w).count);
+      product *= count * (i == 0 ? 1 : near);
+    }
+    return product;
   }
 
   int chosen(int i) {

@@ -18,7 +18,7 @@ public final class RunsTest {
     weights("key 30 letter 20 wipe 1 rule 12 join 5 own 10 quarrel 5 idle 3 missing 5 speak 1 strike 24 "
         + "change 3 back 2 stands 14 piece 8 could 6 told 2"),
     weights("key 40 wipe 1 word 9 ofWord 2 count 3 price 1 slip 6 guess 9 part 7 pieceOf 3 told 1"),
-    weights("key 20 wipe 2 word 20 count 3 both 14 say 9 chosen 9 product 5 told 2"),
+    weights("key 20 wipe 6 word 20 count 3 both 14 say 14 chosen 14 product 5 told 2"),
     weights("key 16 wipe 2 word 9 learn 14 worth 10 forget 2 fade 2 mine 9 guess 2 budget 6 seed 1 share 8 told 2"),
     weights("symbols 1 set 40 pair 30 same 2 cost 8 best 1 bound 2 better 8 way 2 told 1"),
     weights("key 9 letter 4 wipe 2 rule 4 join 2 own 2 quarrel 1 idle 1 missing 2 speak 1 strike 4 change 1 back 1 "
@@ -84,11 +84,11 @@ public final class RunsTest {
     return draw(0, 1) == 0 ? Integer.MIN_VALUE + draw(0, 40) : Integer.MAX_VALUE - draw(0, 40);
   }
 
-  /** Few KEYS in use make many likenesses; many WORDS would let PlainDesk part for ever. */
+  /** Few KEYS in use make many likenesses, few WORDS many ways to part. */
   private static void drawBounds(int theme) {
-    keysInUse = draw(1, 11);
+    keysInUse = draw(0, 2) == 0 ? draw(0, 2) : draw(1, 11);
     daysInUse = draw(0, 2) == 0 ? 3000 : draw(1, 60);
-    mostWords = theme == 1 || theme == 5 ? draw(1, 4) : theme == 2 && draw(0, 3) > 0 ? draw(3, 12) : 60;
+    mostWords = draw(0, 1) == 0 ? draw(1, 12) : 60;
   }
 
   private static void oneRun(int theme, int run) {
@@ -155,8 +155,8 @@ public final class RunsTest {
       case "guess": return row(near(1, 7), draw(0, 2) == 0 ? near(0, 60) : draw(0, 25), near(-1, draw(0, words)));
       case "part":
       case "pieceOf": return row(near(1, 7), near(-2, 4));
-      case "both": return row(near(0, words - 1), near(0, words - 1), draw(0, 4) == 0 ? 0 : near(0, 100));
-      case "say": return row(near(0, words - 1), draw(0, 2) == 0 ? 1 : 0);
+      case "both": return row(near(0, words - 1), near(0, words - 1), draw(0, 1) == 0 ? draw(0, 3) : near(0, 100));
+      case "say": return row(near(0, words - 1), draw(0, 3) == 0 ? 1 : 0);
       case "chosen": return row(near(0, 4));
       case "learn": return row(near(0, 3), near(0, words - 1), near(0, daysInUse));
       case "worth": return row(near(0, 3), near(0, Math.min(8, words - 1)), near(0, daysInUse));
