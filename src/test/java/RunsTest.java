@@ -1,12 +1,19 @@
+import java.io.IOException;
 import java.lang.reflect.Method;
 import java.lang.reflect.Modifier;
 import java.util.Arrays;
+import java.util.HashSet;
+import java.util.List;
+import java.util.Set;
 
 /**
  * Runs of 512 calls, drawn by lots of a fixed seed, on the program and on PlainDesk: all answers are held
- * against one another. Each run has a theme, so that rows grow long and answers lie beyond refusals.
+ * against one another. Each run has a theme, so that rows grow long and answers lie beyond refusals; each call
+ * must have been answered often, and refused in each way that its promise names.
  */
 public final class RunsTest {
+  private static final List<String> REFUSALS = List.of("UNKNOWN", "OUTSIDE", "STATE", "FULL", "NO", "NONE");
+  /** The calls of promises 2 to 47, in their order. */
   private static final String[] NAMES = {
     "key", "letter", "wipe", "rule", "join", "own", "quarrel", "idle", "missing", "speak",
     "strike", "change", "back", "stands", "piece", "could", "word", "ofWord", "count", "price",
@@ -25,6 +32,11 @@ public final class RunsTest {
         + "stands 3 piece 2 could 2 word 4 ofWord 2 count 1 price 1 slip 2 guess 2 part 1 pieceOf 1 both 2 say 2 "
         + "chosen 2 product 1 learn 3 worth 2 forget 1 fade 1 mine 2 budget 1 seed 1 share 2 symbols 1 set 4 pair 3 "
         + "same 1 cost 2 bound 1 better 2 told 3"),
+    // Those that follow fill up: RULES and JOINS, WORDS and pairs, learnings.
+    weights("key 20 letter 16 wipe 6 rule 26 join 8 own 4 quarrel 6 idle 4 missing 6 strike 10 stands 6 piece 4 "
+        + "could 3 told 2"),
+    weights("key 26 wipe 2 word 26 guess 4 part 4 pieceOf 2 slip 2 both 22 say 6 chosen 6 learn 2 mine 2 told 2"),
+    weights("key 8 wipe 1 word 2 learn 30 worth 12 forget 1 fade 2 mine 6 budget 6 share 8 told 2"),
   };
   private static final Method[] OF_PROGRAM = new Method[NAMES.length];
   private static final Method[] OF_PLAIN = new Method[NAMES.length];
@@ -33,11 +45,13 @@ public final class RunsTest {
 
   private static long lot = 20261119;
   private static final int[] answers = new int[NAMES.length];
+  private static final Set<String> refused = new HashSet<>();
   private static int keysInUse;
   private static int daysInUse;
+  private static int today;
   private static int mostWords;
 
-  public static void main(String[] args) {
+  public static void main(String[] args) throws IOException {
     for (int n = 0; n < NAMES.length; n++) {
       OF_PROGRAM[n] = named(KeyDesk.class, NAMES[n]);
       OF_PLAIN[n] = named(PlainDesk.class, NAMES[n]);
@@ -48,8 +62,12 @@ public final class RunsTest {
         oneRun(theme, run);
       }
     }
+    Document document = new Document();
     for (int n = 0; n < NAMES.length; n++) {
       Due.holds(answers[n] > 50, NAMES[n] + " was answered, not refused, often: " + answers[n]);
+      for (String refusal : document.refusals(n + 2)) {
+        Due.holds(refused.contains(NAMES[n] + " " + refusal), NAMES[n] + " was refused so: " + refusal);
+      }
     }
     Due.end();
   }
@@ -88,7 +106,7 @@ public final class RunsTest {
   private static void drawBounds(int theme) {
     keysInUse = draw(0, 2) == 0 ? draw(0, 2) : draw(1, 11);
     daysInUse = draw(0, 2) == 0 ? 3000 : draw(1, 60);
-    mostWords = draw(0, 1) == 0 ? draw(1, 12) : 60;
+    mostWords = theme == 8 ? draw(1, 3) : theme != 7 && draw(0, 1) == 0 ? draw(1, 12) : 100;
   }
 
   private static void oneRun(int theme, int run) {
@@ -105,13 +123,15 @@ public final class RunsTest {
       call++;
     }
     for (; call < CALLS; call++) {
+      today = daysInUse * call / CALLS;
       int name = 0;
       int left = draw(0, all - 1);
       while (left >= THEMES[theme][name]) {
         left -= THEMES[theme][name];
         name++;
       }
-      if (NAMES[name].equals("word") && y.told(5) >= mostWords) {
+      boolean takesKeys = NAMES[name].equals("word") || NAMES[name].equals("rule");
+      if (theme >= 6 && takesKeys && y.told(0) == 0 || NAMES[name].equals("word") && y.told(5) >= mostWords) {
         name = 0;
       }
       oneCall(x, y, name, theme + "/" + run + "/" + call);
@@ -122,8 +142,12 @@ public final class RunsTest {
     int[] a = arguments(NAMES[name], y);
     long got = ask(OF_PROGRAM[name], x, a);
     long want = ask(OF_PLAIN[name], y, a);
-    boolean refused = got >= -6 && got < 0 || got <= -1000000 || got == -1002 || got == -1006;
-    answers[name] += refused ? 0 : 1;
+    long refusal = got - (NAMES[name].equals("stands") ? KeyDesk.LOST : NAMES[name].equals("share") ? -1000000 : 0);
+    if (refusal < 0 && refusal >= KeyDesk.NONE) {
+      refused.add(NAMES[name] + " " + REFUSALS.get((int) -refusal - 1));
+    } else {
+      answers[name]++;
+    }
     Due.holds(got == want,
         where + " " + NAMES[name] + Arrays.toString(a) + " answered " + got + ", PlainDesk " + want);
   }
@@ -137,7 +161,7 @@ public final class RunsTest {
       case "wipe": return row(near(0, 2));
       case "rule": return row(draw(0, 3) > 0 ? 0 : near(0, 2));
       case "join": return row(draw(0, 3) > 0 ? 0 : near(0, 2), near(1, 7), near(1, 7), near(1, 9));
-      case "own": return row(draw(0, 3) > 0 ? 0 : near(0, 2), near(1, 12), draw(0, 3) > 0 ? 1 : 0);
+      case "own": return row(draw(0, 3) > 0 ? 0 : near(0, 2), near(1, draw(0, 3) == 0 ? 60 : 12), draw(0, 3) > 0 ? 1 : 0);
       case "quarrel":
       case "missing": return row(draw(0, 3) > 0 ? 0 : near(0, 2), near(-1, 8));
       case "idle": return row(draw(0, 3) > 0 ? 0 : near(0, 2), near(0, 1));
@@ -158,7 +182,7 @@ public final class RunsTest {
       case "both": return row(near(0, words - 1), near(0, words - 1), draw(0, 1) == 0 ? draw(0, 3) : near(0, 100));
       case "say": return row(near(0, words - 1), draw(0, 3) == 0 ? 1 : 0);
       case "chosen": return row(near(0, 4));
-      case "learn": return row(near(0, 3), near(0, words - 1), near(0, daysInUse));
+      case "learn": return row(near(0, 3), near(0, words - 1), draw(0, 9) == 0 ? near(0, daysInUse) : today);
       case "worth": return row(near(0, 3), near(0, Math.min(8, words - 1)), near(0, daysInUse));
       case "forget": return row(near(0, 3), draw(0, 3) == 0 ? -1 : near(0, words - 1));
       case "fade": return row(draw(0, 3) == 0 ? 1000 * draw(0, 1) : near(0, 1000));
